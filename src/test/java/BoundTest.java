@@ -7,6 +7,7 @@ public final class BoundTest {
         oneDoor();
         allDoorsBetweenTwoDistances();
         greatestOfAllDistances();
+        emptyDistancesDoNotCount();
         releasesAndRoomsDoNotCount();
         somebodyTrapped();
         CHECK.end();
@@ -71,6 +72,19 @@ public final class BoundTest {
         x.step(50);
         x.come(3, 1);
         CHECK.equal("bound() of the innermost", x.bound(), 3);
+    }
+
+    private static void emptyDistancesDoNotCount() {
+        Stairflow x = new Stairflow();
+        for (int place = 1; place <= 10; place++) {
+            x.addPlace(30);
+            x.addDoor(place, place - 1, 9, 1);
+        }
+        CHECK.equal("bound() with nobody inside, ten distances", x.bound(), 0);
+        x.come(2, 1);
+        CHECK.equal("bound() of one person at the distance 2", x.bound(), 2);
+        x.come(10, 10);
+        CHECK.equal("bound() of the greatest distance there can be", x.bound(), 9 + 2);
     }
 
     private static void releasesAndRoomsDoNotCount() {
