@@ -14,6 +14,8 @@ public final class Stairflow {
     private static final int MOST_RELEASE = 1000;
     private static final int MOST_STEPS = 50;
     private static final int MOST_STEPS_TO_CLEAR = 300;
+    // Far more than can wish to leave in one step.
+    private static final int ROOM_FOR_ALL = 1000000;
 
     private int placeCount;
     private final int[] roomOf;
@@ -328,7 +330,7 @@ public final class Stairflow {
     }
 
     private int roomLeft(int place) {
-        return place == OUTSIDE ? Integer.MAX_VALUE : roomOf[place] - peopleAt[place];
+        return place == OUTSIDE ? ROOM_FOR_ALL : roomOf[place] - peopleAt[place];
     }
 
     private boolean areAllReleased() {

@@ -1,6 +1,21 @@
+import java.util.function.Consumer;
+import java.util.function.Supplier;
+
 /** Counts and prints the answers that are not due. */
 final class Check {
     private int wrong = 0;
+    private String sentence = "";
+
+    /** Runs the test of one sentence of the document; its failures are told with the sentence. */
+    void sentence(String words, Runnable test) {
+        sentence = "[" + words + "] ";
+        try {
+            test.run();
+        } catch (RuntimeException e) {
+            fail("a call threw " + e + " at " + e.getStackTrace()[0]);
+        }
+        sentence = "";
+    }
 
     void equal(String what, long got, long due) {
         if (got != due) {
@@ -20,11 +35,19 @@ final class Check {
         }
     }
 
-    /** The call must throw exactly this exception and leave every answer of the bench as it was. */
-    void refuses(Stairflow bench, Class<? extends RuntimeException> due, String what, Runnable call) {
-        String before = Snapshot.of(bench);
-        equal(what, outcome(call), due.getSimpleName());
-        equal("all answers after " + what, Snapshot.of(bench), before);
+    /** The call must throw exactly this exception. */
+    void throwsOnly(Class<? extends RuntimeException> due, String call, Runnable thrower) {
+        equal(call, outcome(thrower), due.getSimpleName());
+    }
+
+    /**
+     * The call must throw exactly this exception, and the bench must go on like its twin, which has not had the call.
+     */
+    void refuses(Supplier<Stairflow> made, Class<? extends RuntimeException> due, String call,
+            Consumer<Stairflow> refused) {
+        Stairflow bench = made.get();
+        throwsOnly(due, call, () -> refused.accept(bench));
+        equal("the bench behind " + call, Snapshot.withFuture(bench), Snapshot.withFuture(made.get()));
     }
 
     void end() {
@@ -45,6 +68,6 @@ final class Check {
 
     private void fail(String text) {
         wrong++;
-        System.out.println(text);
+        System.out.println(sentence + text);
     }
 }

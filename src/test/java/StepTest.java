@@ -1,256 +1,241 @@
-/** Promises 9 to 11, and what the terms say of a step: wishes, releases, rooms, shares and rounds. */
+/** Promises 9 to 11, sentence by sentence: step, clear, now. */
 public final class StepTest {
     private static final Check CHECK = new Check();
 
     public static void main(String[] args) {
-        stepRange();
-        flowLimitsTheWish();
-        releaseHoldsBack();
-        roomIsThatOfTheBeginning();
-        sharesAndRounds();
-        outsideGrantsAll();
-        outsideIsNotLimitedByAnyRoom();
-        othersTakeWhatAShortWishLeaves();
-        closedDoorSendsAnew();
-        closedDoorStopsAll();
-        clearToTheEnd();
-        clearWhenNobodyIsInside();
-        clearWaitsForAllReleases();
-        clearWaitsForTheOutsidesRelease();
-        clearAtMost300();
-        clearGoesOnWhileSomebodyMoves();
+        CHECK.sentence("9: steps: 1 to 50", StepTest::steps);
+        CHECK.sentence("9: Returns how many people reach the outside in them.", StepTest::howManyReachTheOutside);
+        CHECK.sentence("9: IllegalArgumentException if steps is out of range", StepTest::stepsOutOfRange);
+        CHECK.sentence("10: Lets steps pass until nobody is inside", StepTest::untilNobodyIsInside);
+        CHECK.sentence("10: or nobody moves in a step", StepTest::nobodyMoves);
+        CHECK.sentence("10: and the release times of all places", StepTest::releasesOfAllPlaces);
+        CHECK.sentence("10: and the release times of all places (the outside is one)", StepTest::releaseOfTheOutside);
+        CHECK.sentence("10: also of those without people", StepTest::releaseWithoutPeople);
+        CHECK.sentence("10: are past (at most the time at the beginning of that step)", StepTest::releasePast);
+        CHECK.sentence("10: but at most 300 steps", StepTest::atMost300Steps);
+        CHECK.sentence("10: but at most 300 steps (people move in all of them)", StepTest::atMost300StepsWithMoves);
+        CHECK.sentence("10: none at all if nobody is inside at the beginning", StepTest::noneAtAll);
+        CHECK.sentence("10: Returns how many steps have passed, the last one included.", StepTest::lastOneIncluded);
+        CHECK.sentence("11: Returns the time.", StepTest::time);
         CHECK.end();
     }
 
-    /** A bench with one place, and one door from it to the outside. */
-    private static Stairflow oneRoom(int flow) {
-        Stairflow x = new Stairflow();
-        x.addPlace(30);
-        x.addDoor(1, 0, flow, 1);
-        return x;
-    }
-
-    private static void stepRange() {
-        Stairflow x = oneRoom(1);
-        x.come(1, 30);
-        for (int steps : new int[] {0, -1, 51, Integer.MIN_VALUE, Integer.MAX_VALUE}) {
-            CHECK.refuses(x, IllegalArgumentException.class, "step(" + steps + ")", () -> x.step(steps));
+    private static void steps() {
+        Stairflow x = Benches.oneRoom(1);
+        int time = 0;
+        for (int steps = 1; steps <= 50; steps++) {
+            if (x.people(1) < 30) {
+                x.come(1, 30 - x.people(1));
+            }
+            CHECK.equal("step(" + steps + ")", x.step(steps), Math.min(steps, 30));
+            time += steps;
+            CHECK.equal("now() behind step(" + steps + ")", x.now(), time);
         }
-        CHECK.equal("step(1)", x.step(1), 1);
-        CHECK.equal("now()", x.now(), 1);
-        CHECK.equal("step(3)", x.step(3), 3);
-        CHECK.equal("now()", x.now(), 4);
-        CHECK.equal("step(50)", x.step(50), 26);
-        CHECK.equal("now()", x.now(), 54);
+        x.clear();
+        time = x.now();
         CHECK.equal("step(50) with nobody inside", x.step(50), 0);
-        CHECK.equal("now()", x.now(), 104);
+        CHECK.equal("now() behind step(50) with nobody inside", x.now(), time + 50);
     }
 
-    private static void flowLimitsTheWish() {
-        Stairflow x = oneRoom(4);
-        x.come(1, 10);
-        CHECK.equal("step(1)", x.step(1), 4);
-        CHECK.equal("step(1)", x.step(1), 4);
+    /** Who reached it before does not count, and who only moves inside does not. */
+    private static void howManyReachTheOutside() {
+        Stairflow x = Benches.row(3, 2);
+        x.come(3, 5);
+        CHECK.equal("step(2)", x.step(2), 0);
         CHECK.equal("step(1)", x.step(1), 2);
-        CHECK.equal("step(1)", x.step(1), 0);
-    }
-
-    private static void releaseHoldsBack() {
-        Stairflow x = oneRoom(1);
-        x.come(1, 2);
-        x.setRelease(1, 2);
-        CHECK.equal("step(1) at 0", x.step(1), 0);
-        CHECK.equal("step(1) at 1", x.step(1), 0);
-        CHECK.equal("step(1) at 2, the release time", x.step(1), 1);
-        x.setRelease(1, 4);
-        CHECK.equal("step(1) at 3", x.step(1), 0);
-        CHECK.equal("step(1) at 4", x.step(1), 1);
-    }
-
-    private static void roomIsThatOfTheBeginning() {
-        Stairflow x = new Stairflow();
-        x.addPlace(3);
-        x.addPlace(30);
-        x.addDoor(1, 0, 9, 1);
-        x.addDoor(2, 1, 9, 1);
-        x.come(1, 3);
-        x.come(2, 8);
-        CHECK.equal("step(1): place 1 is full at its beginning", x.step(1), 3);
-        CHECK.equal("people(2)", x.people(2), 8);
-        CHECK.equal("people(1)", x.people(1), 0);
-        CHECK.equal("step(1)", x.step(1), 0);
-        CHECK.equal("people(1)", x.people(1), 3);
-        CHECK.equal("people(2)", x.people(2), 5);
-    }
-
-    /** Places 2, 3, 4 lead to place 1, by the doors 1, 2, 3 with the shares 1, 2, 3. */
-    private static Stairflow merging(int room) {
-        Stairflow x = new Stairflow();
-        x.addPlace(room);
-        x.addDoor(1, 0, 9, 1);
-        for (int share = 1; share <= 3; share++) {
-            int place = x.addPlace(30);
-            x.addDoor(place, 1, 9, share);
-        }
-        return x;
-    }
-
-    private static void sharesAndRounds() {
-        int[][] due = {
-            {1, 1, 0, 0}, {2, 1, 1, 0}, {3, 1, 2, 0}, {5, 1, 2, 2}, {6, 1, 2, 3}, {7, 2, 2, 3}, {8, 2, 3, 3},
-            {9, 2, 4, 3}, {12, 2, 4, 6}, {18, 3, 6, 9}, {19, 4, 6, 9}, {21, 4, 8, 9}, {22, 5, 8, 9},
-            {23, 5, 9, 9}, {24, 6, 9, 9}, {27, 9, 9, 9}, {30, 9, 9, 9},
-        };
-        for (int[] row : due) {
-            Stairflow x = merging(row[0]);
-            for (int place = 2; place <= 4; place++) {
-                x.come(place, 20);
-            }
-            for (int place = 2; place <= 4; place++) {
-                CHECK.equal("room " + row[0] + ": wouldMove(" + place + ")", x.wouldMove(place), row[place - 1]);
-            }
-            x.step(1);
-            for (int place = 2; place <= 4; place++) {
-                CHECK.equal("room " + row[0] + ": people(" + place + ")", x.people(place), 20 - row[place - 1]);
-            }
-            CHECK.equal("room " + row[0] + ": people(1)", x.people(1), row[1] + row[2] + row[3]);
-        }
-    }
-
-    private static void othersTakeWhatAShortWishLeaves() {
-        Stairflow x = merging(10);
-        x.come(2, 20);
-        x.come(3, 1);
-        x.come(4, 20);
-        CHECK.equal("wouldMove(2)", x.wouldMove(2), 3);
-        CHECK.equal("wouldMove(3)", x.wouldMove(3), 1);
-        CHECK.equal("wouldMove(4)", x.wouldMove(4), 6);
-        x.setRelease(4, 1);
-        CHECK.equal("wouldMove(2)", x.wouldMove(2), 9);
-        CHECK.equal("wouldMove(3)", x.wouldMove(3), 1);
-        CHECK.equal("wouldMove(4)", x.wouldMove(4), 0);
-    }
-
-    private static void outsideGrantsAll() {
-        Stairflow x = new Stairflow();
-        for (int i = 0; i < 10; i++) {
-            int place = x.addPlace(30);
-            x.addDoor(0, place, 9, 1);
-            x.come(place, 30);
-        }
-        CHECK.equal("step(1)", x.step(1), 90);
-        CHECK.equal("step(2)", x.step(2), 180);
-        CHECK.equal("step(1)", x.step(1), 30);
-    }
-
-    private static void outsideIsNotLimitedByAnyRoom() {
-        Stairflow x = oneRoom(9);
-        for (int i = 1; i <= 100; i++) {
-            x.come(1, 30);
-            CHECK.equal("step(4)", x.step(4), 30);
-            CHECK.equal("people(0)", x.people(0), 30 * i);
-        }
-    }
-
-    private static void closedDoorSendsAnew() {
-        Stairflow x = new Stairflow();
-        x.addPlace(30);
-        x.addPlace(30);
-        x.addDoor(1, 0, 2, 1);
-        x.addDoor(1, 2, 3, 1);
-        x.addDoor(2, 0, 1, 1);
-        x.come(1, 10);
         CHECK.equal("step(1)", x.step(1), 2);
-        x.setDoor(0, false);
-        CHECK.equal("step(1)", x.step(1), 0);
-        CHECK.equal("people(2)", x.people(2), 3);
         CHECK.equal("step(1)", x.step(1), 1);
-        CHECK.equal("people(1)", x.people(1), 2);
-        x.setDoor(0, true);
-        x.setDoor(2, false);
-        CHECK.equal("step(1)", x.step(1), 2);
-        CHECK.equal("people(1)", x.people(1), 3);
-        CHECK.equal("people(2)", x.people(2), 2);
-        CHECK.equal("passed(1), either way", x.passed(1), 9);
+        CHECK.equal("step(1)", x.step(1), 0);
+        x.come(3, 5);
+        CHECK.equal("step(4)", x.step(4), 4);
+        CHECK.equal("step(50)", x.step(50), 1);
+        Stairflow y = Benches.places(2);
+        y.addDoor(1, 0, 9, 1);
+        y.addDoor(2, 0, 8, 1);
+        y.come(1, 9);
+        y.come(2, 9);
+        CHECK.equal("step(1) by two doors", y.step(1), 17);
     }
 
-    private static void closedDoorStopsAll() {
-        Stairflow x = oneRoom(9);
-        x.come(1, 5);
-        x.setDoor(0, false);
-        CHECK.equal("step(10)", x.step(10), 0);
-        CHECK.equal("people(1)", x.people(1), 5);
-        CHECK.equal("passed(0)", x.passed(0), 0);
+    private static void stepsOutOfRange() {
+        for (int steps : new int[] {0, -1, -50, 51, 52}) {
+            CHECK.refuses(Benches::busy, IllegalArgumentException.class, "step(" + steps + ")", x -> x.step(steps));
+        }
+        for (int steps : Benches.FAR) {
+            CHECK.refuses(Benches::busy, IllegalArgumentException.class, "step(" + steps + ")", x -> x.step(steps));
+        }
     }
 
-    private static void clearToTheEnd() {
-        Stairflow x = oneRoom(4);
-        x.come(1, 10);
-        CHECK.equal("clear()", x.clear(), 3);
-        CHECK.equal("now()", x.now(), 3);
-        CHECK.equal("inside()", x.inside(), 0);
-        x.come(1, 4);
-        CHECK.equal("clear()", x.clear(), 1);
-        CHECK.equal("now()", x.now(), 4);
+    /** The row gives the people, and the steps by a flow of 4. */
+    private static void untilNobodyIsInside() {
+        for (int[] row : new int[][] {{1, 1}, {3, 1}, {4, 1}, {5, 2}, {8, 2}, {9, 3}, {29, 8}, {30, 8}}) {
+            Stairflow x = Benches.oneRoom(4);
+            x.addPlace(5);
+            x.setRelease(2, 1000);
+            x.come(1, row[0]);
+            CHECK.equal("clear() of " + row[0], x.clear(), row[1]);
+            CHECK.equal("now()", x.now(), row[1]);
+            CHECK.equal("inside()", x.inside(), 0);
+            CHECK.equal("people(0)", x.people(0), row[0]);
+            x.come(1, 4);
+            CHECK.equal("clear() once more", x.clear(), 1);
+            CHECK.equal("now() once more", x.now(), row[1] + 1);
+        }
     }
 
-    private static void clearWhenNobodyIsInside() {
-        Stairflow x = oneRoom(4);
-        x.setRelease(1, 100);
-        CHECK.equal("clear()", x.clear(), 0);
-        CHECK.equal("now()", x.now(), 0);
-    }
-
-    private static void clearWaitsForAllReleases() {
-        Stairflow x = oneRoom(4);
-        x.addPlace(5);
+    private static void nobodyMoves() {
+        Stairflow x = Benches.oneRoom(4);
         x.addPlace(5);
         x.come(2, 5);
-        CHECK.equal("clear() with all released", x.clear(), 1);
-        x.setRelease(3, 10);
-        CHECK.equal("clear() with an empty place released at 10", x.clear(), 10);
-        CHECK.equal("now(): behind the step at 10", x.now(), 11);
+        CHECK.equal("clear() with nobody who can move", x.clear(), 1);
+        CHECK.equal("clear() again", x.clear(), 1);
+        x.come(1, 9);
+        CHECK.equal("clear() with three steps of moves", x.clear(), 3 + 1);
+        CHECK.equal("inside()", x.inside(), 5);
+        CHECK.equal("people(0)", x.people(0), 9);
+
+        Stairflow y = Benches.row(10, 1);
+        y.come(10, 1);
+        CHECK.equal("clear(): it goes on while somebody moves inside", y.clear(), 10);
+        CHECK.equal("people(0)", y.people(0), 1);
+    }
+
+    private static void releasesOfAllPlaces() {
+        Stairflow x = Benches.oneRoom(4);
         x.come(1, 9);
         x.setRelease(1, 20);
-        CHECK.equal("clear()", x.clear(), 13);
-        CHECK.equal("now(): behind the step at 23, the first without a move", x.now(), 24);
-        CHECK.equal("latest()", x.latest(), 23);
-        CHECK.equal("inside()", x.inside(), 5);
+        CHECK.equal("clear() with a release at 20", x.clear(), 20 + 3);
+        Stairflow y = Benches.row(3, 1);
+        y.come(3, 1);
+        y.come(2, 1);
+        y.setRelease(3, 5);
+        y.setRelease(2, 40);
+        y.setRelease(1, 60);
+        CHECK.equal("clear() with a release in each place", y.clear(), 60 + 2);
+        CHECK.equal("latest()", y.latest(), 62);
     }
 
-    private static void clearWaitsForTheOutsidesRelease() {
-        Stairflow x = oneRoom(4);
-        x.addPlace(5);
-        x.come(2, 5);
+    private static void releaseOfTheOutside() {
+        Stairflow x = Benches.places(1);
+        x.come(1, 5);
         x.setRelease(0, 7);
-        CHECK.equal("clear() with the outside released at 7", x.clear(), 8);
-        x.come(1, 4);
-        x.setRelease(0, 1000);
-        CHECK.equal("step(1): the outside's release holds nobody back", x.step(1), 4);
+        CHECK.equal("clear() with the outside released at 7", x.clear(), 7 + 1);
     }
 
-    private static void clearAtMost300() {
-        Stairflow x = oneRoom(9);
-        x.come(1, 30);
-        x.setRelease(1, 1000);
-        for (int i = 1; i <= 3; i++) {
-            CHECK.equal("clear()", x.clear(), 300);
-            CHECK.equal("now()", x.now(), 300 * i);
+    private static void releaseWithoutPeople() {
+        for (int place = 1; place <= 10; place++) {
+            if (place != 2) {
+                Stairflow x = Benches.places(10);
+                x.come(2, 5);
+                x.setRelease(place, 10);
+                CHECK.equal("clear() with the empty place " + place + " released at 10", x.clear(), 10 + 1);
+                CHECK.equal("now()", x.now(), 11);
+                CHECK.equal("clear() again", x.clear(), 1);
+            }
         }
-        CHECK.equal("clear()", x.clear(), 104);
-        CHECK.equal("now()", x.now(), 1004);
     }
 
-    private static void clearGoesOnWhileSomebodyMoves() {
-        Stairflow x = oneRoom(1);
+    /** Nobody can move; the row gives the time at the beginning, the release, and the steps. */
+    private static void releasePast() {
+        int[][] due = {{0, 0, 1}, {0, 1, 2}, {0, 2, 3}, {5, 4, 1}, {5, 5, 1}, {5, 6, 2}, {5, 7, 3}, {5, 0, 1}};
+        for (int[] row : due) {
+            Stairflow x = Benches.places(1);
+            x.come(1, 1);
+            if (row[0] > 0) {
+                x.step(row[0]);
+            }
+            x.setRelease(1, row[1]);
+            CHECK.equal("clear() at " + row[0] + ", released at " + row[1], x.clear(), row[2]);
+            CHECK.equal("now()", x.now(), row[0] + row[2]);
+        }
+    }
+
+    /** Nobody can move until the release; the row gives the release, and the steps of three calls. */
+    private static void atMost300Steps() {
+        int[][] due = {{298, 299, 1, 1}, {299, 300, 1, 1}, {300, 300, 1, 1}, {301, 300, 2, 1}, {599, 300, 300, 1},
+            {600, 300, 300, 1}, {601, 300, 300, 2}, {1000, 300, 300, 300}};
+        for (int[] row : due) {
+            Stairflow x = Benches.places(1);
+            x.come(1, 1);
+            x.setRelease(1, row[0]);
+            for (int call = 1; call <= 3; call++) {
+                CHECK.equal("clear() number " + call + ", released at " + row[0], x.clear(), row[call]);
+            }
+        }
+    }
+
+    /** 30 people go one by one from the release on: the row gives the release, the steps, and who is left. */
+    private static void atMost300StepsWithMoves() {
+        int[][] due = {{269, 299, 0}, {270, 300, 0}, {271, 300, 1}, {299, 300, 29}, {300, 300, 30}};
+        for (int[] row : due) {
+            Stairflow x = Benches.oneRoom(1);
+            x.come(1, 30);
+            x.setRelease(1, row[0]);
+            CHECK.equal("clear(), released at " + row[0], x.clear(), row[1]);
+            CHECK.equal("now()", x.now(), row[1]);
+            CHECK.equal("inside()", x.inside(), row[2]);
+            CHECK.equal("clear() for those who are left", x.clear(), row[2]);
+            CHECK.equal("inside()", x.inside(), 0);
+        }
+        Stairflow y = Benches.row(10, 1);
+        for (int place = 1; place <= 10; place++) {
+            y.come(place, 30);
+        }
+        CHECK.equal("clear() of 300 people by a flow of 1", y.clear(), 300);
+        CHECK.equal("inside()", y.inside(), 0);
+        CHECK.equal("latest()", y.latest(), 300);
+    }
+
+    private static void noneAtAll() {
+        CHECK.equal("clear() of a new bench", new Stairflow().clear(), 0);
+        Stairflow x = Benches.oneRoom(4);
+        x.setRelease(1, 100);
+        x.setRelease(0, 100);
+        CHECK.equal("clear() with nobody inside and a release ahead", x.clear(), 0);
+        CHECK.equal("now()", x.now(), 0);
+        x.setRelease(1, 0);
+        x.come(1, 4);
+        x.step(3);
+        CHECK.equal("clear() when all have gone", x.clear(), 0);
+        CHECK.equal("now()", x.now(), 3);
+        CHECK.equal("waited()", x.waited(), 0);
+        x.come(1, 1);
+        CHECK.equal("clear() with one person inside", x.clear(), 1);
+    }
+
+    private static void lastOneIncluded() {
+        Stairflow x = Benches.row(2, 3);
         x.addPlace(30);
-        x.addPlace(9);
-        x.addDoor(1, 2, 1, 1);
-        x.come(1, 30);
-        x.come(2, 30);
-        x.come(3, 9);
-        CHECK.equal("clear()", x.clear(), 61);
-        CHECK.equal("people(0)", x.people(0), 60);
-        CHECK.equal("latest()", x.latest(), 60);
+        x.setRelease(2, 4);
+        x.come(2, 7);
+        x.step(2);
+        CHECK.equal("clear() at 2", x.clear(), 6);
+        CHECK.equal("now(), the last person's step included", x.now(), 8);
+        CHECK.equal("latest()", x.latest(), 8);
+        x.come(2, 7);
+        x.come(3, 1);
+        CHECK.equal("clear() at 8, the step without a move included", x.clear(), 4 + 1);
+        CHECK.equal("now()", x.now(), 13);
+        CHECK.equal("latest()", x.latest(), 12);
+    }
+
+    private static void time() {
+        Stairflow x = new Stairflow();
+        CHECK.equal("now() of a new bench", x.now(), 0);
+        x.step(1);
+        CHECK.equal("now() behind step(1)", x.now(), 1);
+        x.step(50);
+        CHECK.equal("now() behind step(50)", x.now(), 51);
+        CHECK.throwsOnly(IllegalArgumentException.class, "step(51)", () -> x.step(51));
+        CHECK.equal("now() behind a refused step", x.now(), 51);
+        x.addPlace(1);
+        x.come(1, 1);
+        x.setRelease(1, 1000);
+        x.clear();
+        CHECK.equal("now() behind clear() with 300 steps", x.now(), 351);
+        for (int i = 0; i < 100; i++) {
+            x.step(50);
+        }
+        CHECK.equal("now() far behind every release", x.now(), 5351);
     }
 }
