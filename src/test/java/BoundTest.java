@@ -127,7 +127,7 @@ public final class BoundTest {
             join(y, turned, 3, 4, 9);
             join(y, turned, 5, 4, 9);
             y.come(3, 20);
-            CHECK.equal("bound() of 20 by 2: doors within 1 and within 2, and those between other distances, add nothing",
+            CHECK.equal("bound() of 20 by 2: doors within 1 or 2, or between other distances, add nothing",
                 y.bound(), 1 + 10);
         }
     }
