@@ -76,6 +76,30 @@ final class Benches {
         return x;
     }
 
+    /** One of many benches by its number: every place has a way, and most have people and some a release. */
+    static Stairflow someBench(int number) {
+        Stairflow x = new Stairflow();
+        long seed = number;
+        int inside = 1 + number % 10;
+        for (int place = 1; place <= inside; place++) {
+            seed = seed * 6364136223846793005L + 1442695040888963407L;
+            int some = (int) (seed >>> 33);
+            int room = 1 + some % 30;
+            x.addPlace(room);
+            x.addDoor(place, some / 30 % place, 1 + some / 300 % 9, 1 + some / 2700 % 5);
+            if (place <= 5) {
+                x.addDoor(place, some / 7 % place, 1 + some / 11 % 9, 1);
+            }
+            if (some / 13500 % 4 > 0) {
+                x.come(place, 1 + some / 54000 % room);
+            }
+            if (some / 17 % 8 == 0) {
+                x.setRelease(place, some / 19 % 20);
+            }
+        }
+        return x;
+    }
+
     /** As many places as there can be, each with people and a door to the outside. */
     static Stairflow withAllPlaces() {
         Stairflow x = places(10);

@@ -3,6 +3,9 @@ public final class BoundTest {
     private static final Check CHECK = new Check();
 
     public static void main(String[] args) {
+        CHECK.sentence("Beside the steps there is a bound below which no clearing time can be",
+            BoundTest::noClearingTimeBelow);
+        CHECK.sentence("found by the flows over all doors between two distances", BoundTest::flowsOverAllDoors);
         CHECK.sentence("21: a number of steps below which the bench cannot be cleared", BoundTest::cannotBeCleared);
         CHECK.sentence("21: For each distance d of 1 or more", BoundTest::eachDistance);
         CHECK.sentence("21: P be the number of people at places with this distance or a greater one",
@@ -12,10 +15,57 @@ public final class BoundTest {
             BoundTest::joinTheTwoDistances);
         CHECK.sentence("21: If P is not 0", BoundTest::emptyDistancesDoNotCount);
         CHECK.sentence("21: d - 1 plus the quotient of P by F, rounded up", BoundTest::roundedUp);
+        CHECK.sentence("21: at least .. steps are needed", BoundTest::needed);
         CHECK.sentence("21: The greatest of these numbers is returned.", BoundTest::greatest);
         CHECK.sentence("21: 0 if nobody is inside", BoundTest::nobodyInside);
         CHECK.sentence("21: IllegalStateException if somebody is trapped", BoundTest::somebodyTrapped);
         CHECK.end();
+    }
+
+    /** Many benches, each cleared in the end; some are cleared in just as many steps as the bound says. */
+    private static void noClearingTimeBelow() {
+        int reached = 0;
+        for (int number = 0; number < 500; number++) {
+            Stairflow x = Benches.someBench(number);
+            int bound = x.bound();
+            int steps = x.clear() + x.clear() + x.clear();
+            CHECK.equal("inside() of bench " + number, x.inside(), 0);
+            CHECK.holds("the bound " + bound + " is at most the clearing time " + steps, bound <= steps);
+            reached += bound == steps ? 1 : 0;
+        }
+        CHECK.holds("benches with just that clearing time", reached >= 20);
+    }
+
+    /** A door that is no place's own counts; rooms, shares and releases do not. */
+    private static void flowsOverAllDoors() {
+        for (int doors = 1; doors <= 15; doors++) {
+            Stairflow x = new Stairflow();
+            x.addPlace(1);
+            x.addPlace(30);
+            x.setRelease(1, 1000);
+            x.setRelease(2, 500);
+            x.addDoor(1, 0, 9, 1);
+            for (int i = 0; i < doors; i++) {
+                x.addDoor(1 + i % 2, 2 - i % 2, 1, 1 + i % 5);
+            }
+            x.come(2, 30);
+            CHECK.equal("bound() of 30 by " + doors + " doors", x.bound(), Math.max(4, 1 + (29 + doors) / doors));
+            CHECK.equal("passed(2)", doors > 1 ? x.passed(2) : 0, 0);
+        }
+    }
+
+    /** In a row, while nobody else comes, each step takes one from the bound, until nobody is inside. */
+    private static void needed() {
+        for (int people = 1; people <= 30; people++) {
+            Stairflow x = Benches.row(5, 3);
+            x.come(5, people);
+            for (int due = 4 + (people + 2) / 3; due > 0; due--) {
+                CHECK.equal("bound() at " + x.now(), x.bound(), due);
+                CHECK.holds("somebody is inside", x.inside() > 0);
+                x.step(1);
+            }
+            CHECK.equal("inside()", x.inside(), 0);
+        }
     }
 
     /** The bound is reached here, and with rooms and releases it is not: these do not count. */

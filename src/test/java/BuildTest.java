@@ -14,14 +14,18 @@ public final class BuildTest {
         CHECK.sentence("2: IllegalStateException if there are 10 places besides the outside", BuildTest::tenPlaces);
         addDoor();
         CHECK.sentence("4: Closes a door, or opens it.", BuildTest::closesOrOpens);
+        CHECK.sentence("4: whether it is open from now on", BuildTest::fromNowOn);
         CHECK.sentence("4: Returns whether it was open.", BuildTest::whetherItWasOpen);
         CHECK.sentence("4: IndexOutOfBoundsException if there is no such door", BuildTest::setDoorWithoutDoor);
+        CHECK.sentence("5: Lets people come to a place.", BuildTest::comeToAPlace);
+        CHECK.sentence("5: place: its number, not the outside", BuildTest::comeToAnyPlace);
         CHECK.sentence("5: people: 1 to 30", BuildTest::people);
         CHECK.sentence("5: Returns how many are there then.", BuildTest::howManyAreThere);
         CHECK.sentence("5: IndexOutOfBoundsException if there is no such place", BuildTest::comeWithoutPlace);
         CHECK.sentence("5: IllegalArgumentException if it is the outside", BuildTest::comeOutside);
         CHECK.sentence("5: IllegalArgumentException if people is out of range", BuildTest::peopleOutOfRange);
         CHECK.sentence("5: IllegalStateException if there would be more than its room", BuildTest::moreThanItsRoom);
+        CHECK.sentence("6: Sets the release time of a place.", BuildTest::releaseOfOnePlace);
         CHECK.sentence("6: time: 0 to 1000", BuildTest::releaseTimes);
         CHECK.sentence("6: Returns the release time before.", BuildTest::releaseBefore);
         CHECK.sentence("6: IndexOutOfBoundsException if there is no such place", BuildTest::releaseWithoutPlace);
@@ -245,6 +249,36 @@ public final class BuildTest {
         CHECK.throwsOnly(java.util.NoSuchElementException.class, "door(1)", () -> y.door(1));
     }
 
+    /** Each door in turn alone is open, or alone closed, until it is set again; steps do not change that. */
+    private static void fromNowOn() {
+        for (boolean alone : new boolean[] {true, false}) {
+            Stairflow x = Benches.withAllDoors();
+            for (int door = 0; door < 16; door++) {
+                x.setDoor(door, !alone);
+            }
+            for (int door = 0; door < 16; door++) {
+                x.setDoor(door, alone);
+                checkAlone(x, door, alone);
+                x.step(2);
+                checkAlone(x, door, alone);
+                x.setDoor(door, !alone);
+            }
+        }
+    }
+
+    /** The even doors lead from place 1 to the outside, the odd ones from place 2. */
+    private static void checkAlone(Stairflow x, int door, boolean open) {
+        for (int place = 1; place <= 2; place++) {
+            int at = place;
+            boolean mine = door % 2 == place - 1;
+            int lowest = place - 1;
+            int next = door == lowest ? lowest + 2 : lowest;
+            String due = open ? (mine ? "" + door : "NoSuchElementException") : "" + next;
+            CHECK.equal("door(" + place + ") when " + door + " alone is " + (open ? "open" : "closed"),
+                Snapshot.answer(() -> x.door(at)), due);
+        }
+    }
+
     private static void whetherItWasOpen() {
         Stairflow x = Benches.withAllDoors();
         for (int door = 0; door < 16; door++) {
@@ -265,6 +299,35 @@ public final class BuildTest {
         CHECK.holds("setDoor(0, false), the first door", Benches.busy().setDoor(0, false));
         CHECK.refuses(Benches::withAllDoors, INDEX, "setDoor(16, false)", x -> x.setDoor(16, false));
         CHECK.refuses(() -> Benches.places(1), INDEX, "setDoor(0, false) without doors", x -> x.setDoor(0, false));
+    }
+
+    /** Those who come stand at that place alone, no time passes, and nobody goes through a door. */
+    private static void comeToAPlace() {
+        Stairflow x = Benches.ring();
+        int[] due = {0, 0, 0, 0, 0};
+        for (int place : new int[] {3, 1, 4, 2, 3, 1}) {
+            x.come(place, place + 2);
+            due[place] += place + 2;
+            for (int other = 0; other < 5; other++) {
+                CHECK.equal("people(" + other + ") behind come(" + place + ", ..)", x.people(other), due[other]);
+                CHECK.equal("passed(" + other + ")", x.passed(other), 0);
+            }
+        }
+        CHECK.equal("inside()", x.inside(), 6 + 4 + 10 + 6);
+        CHECK.equal("now()", x.now(), 0);
+        CHECK.equal("waited()", x.waited(), 0);
+    }
+
+    /** Also to a place without a way, and to one that is not released. */
+    private static void comeToAnyPlace() {
+        Stairflow x = Benches.places(10);
+        x.addDoor(10, 0, 1, 1);
+        x.setRelease(10, 1000);
+        for (int place = 1; place <= 10; place++) {
+            CHECK.equal("come(" + place + ", 30)", x.come(place, 30), 30);
+        }
+        CHECK.equal("inside()", x.inside(), 300);
+        CHECK.refuses(Benches::withAllPlaces, ARGUMENT, "come(0, 1)", y -> y.come(0, 1));
     }
 
     private static void people() {
@@ -344,6 +407,20 @@ public final class BuildTest {
         x.addPlace(5);
         x.come(1, 3);
         return x;
+    }
+
+    /** Ten places with a door each: the one that is not yet released stays alone. */
+    private static void releaseOfOnePlace() {
+        for (int place = 0; place <= 10; place++) {
+            Stairflow x = Benches.withAllPlaces();
+            x.setRelease(place, 2);
+            for (int other = 1; other <= 10; other++) {
+                CHECK.equal("wouldMove(" + other + ") when " + place + " is not released", x.wouldMove(other),
+                    other == place ? 0 : 1);
+            }
+            CHECK.equal("step(2)", x.step(2), place == 0 ? 19 : place == 1 ? 18 : 17);
+            CHECK.equal("wouldMove(10) behind the release", x.wouldMove(10), 1);
+        }
     }
 
     private static void releaseTimes() {

@@ -1,13 +1,19 @@
+import java.io.IOException;
 import java.lang.reflect.Constructor;
 import java.lang.reflect.Field;
 import java.lang.reflect.Method;
 import java.lang.reflect.Modifier;
+import java.nio.file.Files;
+import java.nio.file.Path;
 import java.util.Arrays;
 import java.util.Set;
 import java.util.TreeSet;
 import java.util.stream.Collectors;
 
-/** The public face: exactly the members of the document, and nothing else that is not private. */
+/**
+ * The public face: exactly the members of the document, and nothing else that is not private; and in the file the
+ * calls stand in the document's order, below the headings that 'Terms' asks for.
+ */
 public final class FaceTest {
     private static final String[] DUE = {
         "int addDoor(int,int,int,int) IndexOutOfBoundsException,IllegalArgumentException,IllegalStateException",
@@ -32,7 +38,11 @@ public final class FaceTest {
         "int bound() IllegalStateException",
     };
 
-    public static void main(String[] args) {
+    private static final String IN_THE_FILE = "[what is built] addPlace addDoor setDoor come setRelease places doors"
+        + " [steps] step clear now [people] people inside latest passed waited"
+        + " [ways] distance door trapped wouldMove [the bound] bound";
+
+    public static void main(String[] args) throws IOException {
         Check check = new Check();
         Set<String> open = new TreeSet<>();
         Set<String> hidden = new TreeSet<>();
@@ -53,6 +63,7 @@ public final class FaceTest {
             check.holds(field + " is private", Modifier.isPrivate(field.getModifiers()));
         }
         checkConstructors(check);
+        check.equal("the headings and calls in the file", headingsAndCalls(), IN_THE_FILE);
         check.holds("the class is final", Modifier.isFinal(Stairflow.class.getModifiers()));
         check.holds("the class is public", Modifier.isPublic(Stairflow.class.getModifiers()));
         check.end();
@@ -63,6 +74,22 @@ public final class FaceTest {
         check.equal("constructors", all.length, 1);
         check.equal("its parameters", all[0].getParameterCount(), 0);
         check.holds("it is public", Modifier.isPublic(all[0].getModifiers()));
+    }
+
+    /** A heading without a public call below it is the program's own, and is left out. */
+    private static String headingsAndCalls() throws IOException {
+        StringBuilder text = new StringBuilder();
+        String heading = "";
+        for (String line : Files.readAllLines(Path.of("src/main/java/Stairflow.java"))) {
+            if (line.startsWith("    // ---- ")) {
+                heading = " [" + line.substring(12) + "]";
+            } else if (line.startsWith("    public ") && !line.startsWith("    public Stairflow(")) {
+                String ahead = line.substring(0, line.indexOf('('));
+                text.append(heading).append(ahead.substring(ahead.lastIndexOf(' ')));
+                heading = "";
+            }
+        }
+        return text.toString().trim();
     }
 
     private static String told(Method method) {

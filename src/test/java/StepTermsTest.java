@@ -9,6 +9,7 @@ public final class StepTermsTest {
         CHECK.sentence("whose release time (0 at first) is t or less", StepTermsTest::releaseTime);
         CHECK.sentence("the wish is the number of its people, but at most the flow of its door",
             StepTermsTest::atMostTheFlow);
+        CHECK.sentence("For each place, the wishes that lead to it are granted", StepTermsTest::eachPlaceForItself);
         CHECK.sentence("the outside grants all", StepTermsTest::outsideGrantsAll);
         CHECK.sentence("any other place grants as many persons as it has room left at the beginning of the step",
             StepTermsTest::asManyAsItHasRoom);
@@ -100,6 +101,33 @@ public final class StepTermsTest {
                 CHECK.equal("wouldMove(1) of " + people + " by " + flow, x.wouldMove(1), Math.min(people, flow));
                 CHECK.equal("step(1) of " + people + " by " + flow, x.step(1), Math.min(people, flow));
             }
+        }
+    }
+
+    /** Two landings and the outside, whose doors' numbers alternate, grant in one step, each by its own room. */
+    private static void eachPlaceForItself() {
+        Stairflow x = new Stairflow();
+        x.addPlace(4);
+        x.addPlace(7);
+        for (int i = 0; i < 4; i++) {
+            x.addPlace(30);
+        }
+        x.addDoor(1, 0, 3, 1);
+        for (int place = 3; place <= 6; place++) {
+            x.addDoor(place, 1 + place % 2, 9, place - 2);
+            x.come(place, 20);
+        }
+        x.addDoor(2, 0, 5, 1);
+        x.come(1, 1);
+        x.come(2, 2);
+        int[] due = {0, 1, 2, 2, 2, 3, 1};
+        for (int place = 0; place < 7; place++) {
+            CHECK.equal("wouldMove(" + place + ")", x.wouldMove(place), due[place]);
+        }
+        CHECK.equal("step(1)", x.step(1), 3);
+        int[] behind = {3, 3, 5, 18, 18, 17, 19};
+        for (int place = 0; place < 7; place++) {
+            CHECK.equal("people(" + place + ")", x.people(place), behind[place]);
         }
     }
 

@@ -3,6 +3,7 @@ public final class StepTest {
     private static final Check CHECK = new Check();
 
     public static void main(String[] args) {
+        CHECK.sentence("9: Lets steps pass.", StepTest::letsStepsPass);
         CHECK.sentence("9: steps: 1 to 50", StepTest::steps);
         CHECK.sentence("9: Returns how many people reach the outside in them.", StepTest::howManyReachTheOutside);
         CHECK.sentence("9: IllegalArgumentException if steps is out of range", StepTest::stepsOutOfRange);
@@ -18,6 +19,24 @@ public final class StepTest {
         CHECK.sentence("10: Returns how many steps have passed, the last one included.", StepTest::lastOneIncluded);
         CHECK.sentence("11: Returns the time.", StepTest::time);
         CHECK.end();
+    }
+
+    /** Some steps at once are as many single ones; what is done between two calls is heeded by the later one. */
+    private static void letsStepsPass() {
+        for (int steps = 1; steps <= 50; steps++) {
+            Stairflow x = Benches.busy();
+            Stairflow y = Benches.busy();
+            int reached = 0;
+            for (int i = 0; i < steps; i++) {
+                reached += y.step(1);
+            }
+            CHECK.equal("step(" + steps + ")", x.step(steps), reached);
+            CHECK.equal("a bench behind step(" + steps + ")", Snapshot.of(x), Snapshot.of(y));
+            x.setDoor(2, true);
+            y.setDoor(2, true);
+            CHECK.equal("step(2) behind step(" + steps + ")", x.step(2), y.step(1) + y.step(1));
+            CHECK.equal("a bench behind two more", Snapshot.of(x), Snapshot.of(y));
+        }
     }
 
     private static void steps() {

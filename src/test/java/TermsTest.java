@@ -15,7 +15,7 @@ public final class TermsTest {
         CHECK.sentence("Doors are numbered from 0", TermsTest::doorsFrom0);
         CHECK.sentence("there are at most 16", TermsTest::atMost16Doors);
         CHECK.sentence("A door joins two different places", TermsTest::differentPlaces);
-        CHECK.sentence("its flow of 1 to 9", TermsTest::flows);
+        CHECK.sentence("lets a number of persons through in a step, its flow of 1 to 9", TermsTest::flows);
         CHECK.sentence("a share of 1 to 5", TermsTest::shares);
         CHECK.sentence("it is open or closed, at first open", TermsTest::atFirstOpen);
         CHECK.sentence("Time is 0 at first.", TermsTest::timeIs0);
